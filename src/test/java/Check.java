@@ -1,0 +1,42 @@
+import java.util.Objects;
+
+/** What the tests share: due answers, due exceptions, and the exit code. */
+final class Check {
+    interface Call {
+        Object make();
+    }
+
+    private static int wrong = 0;
+
+    private Check() {
+    }
+
+    static void due(String call, Object want, Call made) {
+        Object got = answerOf(made);
+        if (!Objects.equals(got, want)) {
+            wrong++;
+            System.out.println(call + " answered " + got + ", due is " + want);
+        }
+    }
+
+    /** A call that throws answers the simple name of what it throws. */
+    static Object answerOf(Call made) {
+        try {
+            return made.make();
+        } catch (RuntimeException e) {
+            return "throws." + e.getClass().getSimpleName();
+        }
+    }
+
+    static void fail(String text) {
+        wrong++;
+        System.out.println(text);
+    }
+
+    static void end() {
+        System.out.println(wrong == 0 ? "all answers are as due" : wrong + " answers are not as due");
+        if (wrong != 0) {
+            System.exit(1);
+        }
+    }
+}
