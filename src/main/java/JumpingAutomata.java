@@ -703,7 +703,7 @@ public final class JumpingAutomata {
         }
 
         boolean has(int from, int letter, int to) {
-            return isState(to) && (targetsOf(from, letter) >> to & 1) != 0;
+            return isState(to) && ((targetsOf(from, letter) >> to) & 1) != 0;
         }
 
         void put(int from, int letter, int to) {
@@ -720,7 +720,7 @@ public final class JumpingAutomata {
 
         void markFinal(int state, boolean on) {
             if (isState(state)) {
-                finals = on ? finals | 1 << state : finals & ~(1 << state);
+                finals = on ? finals | (1 << state) : finals & ~(1 << state);
             }
         }
 
@@ -774,7 +774,7 @@ public final class JumpingAutomata {
 
         boolean hasSingleTargets() {
             for (int i = 0; i < SOURCES; i++) {
-                if ((targets[i] & targets[i] - 1) != 0) {
+                if ((targets[i] & (targets[i] - 1)) != 0) {
                     return false;
                 }
             }
@@ -796,7 +796,7 @@ public final class JumpingAutomata {
             int before = 0;
             for (int i = 0; i < SOURCES; i++) {
                 if ((targets[i] & mask) != 0) {
-                    before |= 1 << i / LETTERS;
+                    before |= 1 << (i / LETTERS);
                 }
             }
             return before;
@@ -913,6 +913,7 @@ public final class JumpingAutomata {
     /** What was before each of the latest changes, in a ring, and what was saved. */
     private static final class Memory {
         private static final int DEPTH = 8;
+        private static final int LAST = DEPTH - 1;
         private static final int ROW_CELLS = Automaton.ROW_CELLS + CountingSets.ROW_CELLS;
 
         private final int[][] ring = new int[DEPTH][ROW_CELLS];
@@ -922,14 +923,14 @@ public final class JumpingAutomata {
         boolean hasKept = false;
 
         void push(Automaton automaton, CountingSets sets) {
-            write(ring[end & DEPTH - 1], automaton, sets);
-            end = end + 1 & DEPTH - 1;
+            write(ring[end & LAST], automaton, sets);
+            end = (end + 1) & LAST;
             size = size < DEPTH ? size + 1 : DEPTH;
         }
 
         void pop(Automaton automaton, CountingSets sets) {
             if (size > 0) {
-                end = end - 1 & DEPTH - 1;
+                end = (end - 1) & LAST;
                 size--;
                 read(ring[end], automaton, sets);
             }
@@ -1117,11 +1118,17 @@ public final class JumpingAutomata {
 
         /** The counts less a period come before the counts, so any number of copies is added. */
         private void spread(int period, int bit, int top) {
-            for (int a = firstOf(period); a <= firstOf(top); a++) {
-                for (int b = secondOf(period); b <= secondOf(top); b++) {
-                    for (int c = thirdOf(period); c <= thirdOf(top); c++) {
+            if (period < 0 || period >= CODES || top < 0 || top >= CODES) {
+                return;
+            }
+            int topA = firstOf(top);
+            int topB = secondOf(top);
+            int topC = thirdOf(top);
+            for (int a = firstOf(period); a <= topA; a++) {
+                for (int b = secondOf(period); b <= topB; b++) {
+                    for (int c = thirdOf(period); c <= topC; c++) {
                         int code = codeOf(a, b, c);
-                        mark(code, at(code - period) & bit);
+                        masks[code] |= masks[code - period] & bit;
                     }
                 }
             }
@@ -1193,10 +1200,10 @@ public final class JumpingAutomata {
             found.clear();
             int useful = automaton.useful();
             for (int state = 0; state < STATES; state++) {
-                if ((useful >> state & 1) != 0) {
+                if (((useful >> state) & 1) != 0) {
                     start = state;
                     // The states that may still be met are the free ones.
-                    int free = useful & -2 << state;
+                    int free = useful & (-2 << state);
                     walk(automaton, found, state, free, 0, 0);
                 }
             }
@@ -1209,11 +1216,11 @@ public final class JumpingAutomata {
             for (int letter = 0; letter < LETTERS; letter++) {
                 int targets = automaton.targetsOf(at, letter);
                 int longer = code + weightOf(letter);
-                if ((targets >> start & 1) != 0) {
+                if (((targets >> start) & 1) != 0) {
                     found.insert(longer);
                 }
                 for (int to = start + 1; to < STATES; to++) {
-                    if ((targets & free & 1 << to) != 0) {
+                    if ((targets & free & (1 << to)) != 0) {
                         walk(automaton, found, to, free & ~(1 << to), longer, depth + 1);
                     }
                 }
@@ -1240,7 +1247,7 @@ public final class JumpingAutomata {
                 for (int from = 0; from < STATES; from++) {
                     int targets = automaton.targetsOf(from, word[i]);
                     for (int to = 0; to < STATES; to++) {
-                        nextRow[to] += (targets >> to & 1) != 0 ? row[from] : 0;
+                        nextRow[to] += ((targets >> to) & 1) != 0 ? row[from] : 0;
                     }
                 }
                 System.arraycopy(nextRow, 0, row, 0, MASKS);
@@ -1403,7 +1410,7 @@ public final class JumpingAutomata {
         private void meet(Automaton automaton, int letter) {
             int next = automaton.step(letter, state);
             if (next == 0) {
-                rest |= letter << 2 * restSize;
+                rest |= letter << (2 * restSize);
                 restSize++;
                 passing = true;
                 return;
@@ -1422,7 +1429,7 @@ public final class JumpingAutomata {
                 rest = 0;
                 restSize = 0;
                 for (int i = 0; i < before && i < WORD_LIMIT; i++) {
-                    meet(automaton, waiting >> 2 * i & 3);
+                    meet(automaton, (waiting >> (2 * i)) & 3);
                 }
             }
         }
@@ -1473,7 +1480,7 @@ public final class JumpingAutomata {
             for (int set = 1; set <= full && set < POSITION_SETS; set++) {
                 int mask = 0;
                 for (int p = 0; p < length && p < WORD_LIMIT; p++) {
-                    if ((set >> p & 1) != 0) {
+                    if (((set >> p) & 1) != 0) {
                         mask |= automaton.step(letters[p], states[set & ~(1 << p)]);
                     }
                 }
@@ -1484,7 +1491,7 @@ public final class JumpingAutomata {
         private void packFinals(Automaton automaton, int full) {
             int packed = 0;
             for (int state = 0; state < STATES; state++) {
-                packed |= (automaton.accepting(1 << state) ? 0 : NONE) << COST_BITS * state;
+                packed |= (automaton.accepting(1 << state) ? 0 : NONE) << (COST_BITS * state);
             }
             for (int last = 0; last < WORD_LIMIT; last++) {
                 putCosts(full, last, packed);
@@ -1494,23 +1501,23 @@ public final class JumpingAutomata {
         private void fillSet(Automaton automaton, int set) {
             int mask = set >= 0 && set < POSITION_SETS ? states[set] : 0;
             for (int p = 0; p < length && p < WORD_LIMIT; p++) {
-                if ((set >> p & 1) == 0) {
+                if (((set >> p) & 1) == 0) {
                     before[p] = costsBefore(automaton, set, p, mask);
                 }
             }
             for (int last = 0; last < length; last++) {
-                if ((set >> last & 1) != 0 || set == 0 && last == 0) {
+                if (((set >> last) & 1) != 0 || (set == 0 && last == 0)) {
                     putCosts(set, last, costsFrom(set, last, mask));
                 }
             }
         }
 
         private int costsBefore(Automaton automaton, int set, int p, int mask) {
-            int later = costsAt(set | 1 << p, p);
+            int later = costsAt(set | (1 << p), p);
             int packed = 0;
             for (int state = 0; state < STATES; state++) {
-                int targets = (mask >> state & 1) != 0 ? automaton.targetsOf(state, letters[p]) : 0;
-                packed |= leastOf(later, targets) << COST_BITS * state;
+                int targets = ((mask >> state) & 1) != 0 ? automaton.targetsOf(state, letters[p]) : 0;
+                packed |= leastOf(later, targets) << (COST_BITS * state);
             }
             return packed;
         }
@@ -1519,14 +1526,14 @@ public final class JumpingAutomata {
             int packed = 0;
             for (int state = 0; state < STATES; state++) {
                 int least = NONE;
-                if ((mask >> state & 1) != 0) {
+                if (((mask >> state) & 1) != 0) {
                     for (int p = 0; p < length && p < WORD_LIMIT; p++) {
-                        if ((set >> p & 1) == 0) {
+                        if (((set >> p) & 1) == 0) {
                             least = Math.min(least, Math.abs(last - p) + costOf(before[p], state));
                         }
                     }
                 }
-                packed |= least << COST_BITS * state;
+                packed |= least << (COST_BITS * state);
             }
             return packed;
         }
@@ -1549,9 +1556,9 @@ public final class JumpingAutomata {
 
         private int nextPosition(Automaton automaton, int set, int last, int mask, int left) {
             for (int p = 0; p < length && p < WORD_LIMIT; p++) {
-                if ((set >> p & 1) == 0) {
+                if (((set >> p) & 1) == 0) {
                     int after = automaton.step(letters[p], mask);
-                    if (Math.abs(last - p) + leastOf(costsAt(set | 1 << p, p), after) == left) {
+                    if (Math.abs(last - p) + leastOf(costsAt(set | (1 << p), p), after) == left) {
                         return p;
                     }
                 }
@@ -1574,13 +1581,13 @@ public final class JumpingAutomata {
         }
 
         private static int costOf(int packed, int state) {
-            return packed >> COST_BITS * state & NONE;
+            return (packed >> (COST_BITS * state)) & NONE;
         }
 
         private static int leastOf(int packed, int mask) {
             int least = NONE;
             for (int state = 0; state < STATES; state++) {
-                if ((mask >> state & 1) != 0) {
+                if (((mask >> state) & 1) != 0) {
                     least = Math.min(least, costOf(packed, state));
                 }
             }
