@@ -24,6 +24,7 @@ public final class JumpingAutomata {
 
     private static final int SETS = 2;
     private static final int LINEAR_LIMIT = 4;
+    private static final int ALL_LINEARS = (1 << LINEAR_LIMIT) - 1;
     private static final int PERIOD_LIMIT = 3;
     private static final int LINEAR_CELLS = 2 + PERIOD_LIMIT;
     private static final int SET_CELLS = 1 + LINEAR_LIMIT * LINEAR_CELLS;
@@ -86,9 +87,7 @@ public final class JumpingAutomata {
 
     public boolean addTransition(int from, int letter, int to)
             throws IndexOutOfBoundsException, IllegalStateException {
-        if (!isTransition(from, letter, to)) {
-            throw new IndexOutOfBoundsException("there is no such state or letter");
-        }
+        requireTransition(from, letter, to);
         boolean isNew = !automaton.has(from, letter, to);
         if (isNew && automaton.size() >= TRANSITION_LIMIT) {
             throw new IllegalStateException("there are 15 transitions");
@@ -101,9 +100,7 @@ public final class JumpingAutomata {
 
     public void removeTransition(int from, int letter, int to)
             throws IndexOutOfBoundsException, NoSuchElementException {
-        if (!isTransition(from, letter, to)) {
-            throw new IndexOutOfBoundsException("there is no such state or letter");
-        }
+        requireTransition(from, letter, to);
         if (!automaton.has(from, letter, to)) {
             throw new NoSuchElementException("the transition does not exist");
         }
@@ -184,12 +181,8 @@ public final class JumpingAutomata {
     // ---- reading the current word
 
     public boolean accepts(int mode) throws IllegalArgumentException, UnsupportedOperationException {
-        if (!isMode(mode)) {
-            throw new IllegalArgumentException("the mode is out of range");
-        }
-        if (mode == ONE_WAY && !automaton.hasSingleTargets()) {
-            throw new UnsupportedOperationException("the automaton is not deterministic");
-        }
+        requireMode(mode);
+        requireReadable(mode);
         if (mode == IN_ORDER) {
             return automaton.accepting(automaton.statesAfter(word, wordSize));
         }
@@ -220,17 +213,13 @@ public final class JumpingAutomata {
     }
 
     public int oneWayJumps() throws UnsupportedOperationException {
-        if (!automaton.hasSingleTargets()) {
-            throw new UnsupportedOperationException("the automaton is not deterministic");
-        }
+        requireSingleTargets();
         oneWay.read(automaton, word, wordSize);
         return oneWay.jumps;
     }
 
     public int oneWayRest() throws UnsupportedOperationException {
-        if (!automaton.hasSingleTargets()) {
-            throw new UnsupportedOperationException("the automaton is not deterministic");
-        }
+        requireSingleTargets();
         oneWay.read(automaton, word, wordSize);
         return oneWay.restSize;
     }
@@ -255,9 +244,7 @@ public final class JumpingAutomata {
     // ---- counts of the automaton
 
     public boolean reaches(int a, int b, int c) throws IllegalArgumentException {
-        if (!areDigits(a, b, c)) {
-            throw new IllegalArgumentException("a number is out of range");
-        }
+        requireDigits(a, b, c);
         reached.fillReached(automaton, a, b, c);
         return automaton.accepting(reached.at(codeOf(a, b, c)));
     }
@@ -292,12 +279,8 @@ public final class JumpingAutomata {
 
     public int addLinearSet(int set, int a, int b, int c)
             throws IndexOutOfBoundsException, IllegalArgumentException, IllegalStateException {
-        if (!isSet(set)) {
-            throw new IndexOutOfBoundsException("there is no such counting set");
-        }
-        if (!areDigits(a, b, c)) {
-            throw new IllegalArgumentException("a number is out of range");
-        }
+        requireSet(set);
+        requireDigits(a, b, c);
         if (sets.linearCount(set) >= LINEAR_LIMIT) {
             throw new IllegalStateException("the counting set has 4 linear sets");
         }
@@ -307,9 +290,7 @@ public final class JumpingAutomata {
 
     public int addPeriod(int set, int linear, int a, int b, int c)
             throws IndexOutOfBoundsException, IllegalArgumentException, IllegalStateException {
-        if (!sets.hasLinear(set, linear)) {
-            throw new IndexOutOfBoundsException("there is no such counting set or linear set");
-        }
+        requireLinear(set, linear);
         if (!areDigits(a, b, c) || codeOf(a, b, c) == 0) {
             throw new IllegalArgumentException("a number is out of range, or all are 0");
         }
@@ -321,78 +302,48 @@ public final class JumpingAutomata {
     }
 
     public int clearSet(int set) throws IndexOutOfBoundsException {
-        if (!isSet(set)) {
-            throw new IndexOutOfBoundsException("there is no such counting set");
-        }
+        requireSet(set);
         beginChange();
         return sets.wipe(set);
     }
 
     public boolean contains(int set, int a, int b, int c)
             throws IndexOutOfBoundsException, IllegalArgumentException {
-        if (!isSet(set)) {
-            throw new IndexOutOfBoundsException("there is no such counting set");
-        }
-        if (!areDigits(a, b, c)) {
-            throw new IllegalArgumentException("a number is out of range");
-        }
+        requireSet(set);
+        requireDigits(a, b, c);
         members.fillMembers(sets, set, a, b, c);
         return members.at(codeOf(a, b, c)) != 0;
     }
 
     public int elements(int set, int bound) throws IndexOutOfBoundsException, IllegalArgumentException {
-        if (!isSet(set)) {
-            throw new IndexOutOfBoundsException("there is no such counting set");
-        }
-        if (!isBound(bound)) {
-            throw new IllegalArgumentException("the bound is out of range");
-        }
+        requireSet(set);
+        requireBound(bound);
         members.fillMembers(sets, set, bound, bound, bound);
-        return members.countMeeting(ALL_STATES, bound);
+        return members.countMeeting(ALL_LINEARS, bound);
     }
 
     public int reachedCounts(int bound) throws IllegalArgumentException {
-        if (!isBound(bound)) {
-            throw new IllegalArgumentException("the bound is out of range");
-        }
+        requireBound(bound);
         reached.fillReached(automaton, bound, bound, bound);
         return reached.countMeeting(automaton.finals, bound);
     }
 
     public int firstMissing(int set, int bound)
             throws IndexOutOfBoundsException, IllegalArgumentException, NoSuchElementException {
-        if (!isSet(set)) {
-            throw new IndexOutOfBoundsException("there is no such counting set");
-        }
-        if (!isBound(bound)) {
-            throw new IllegalArgumentException("the bound is out of range");
-        }
-        int code = firstDifference(set, bound, true);
-        if (code < 0) {
-            throw new NoSuchElementException("there are no such counts");
-        }
-        return code;
+        requireSet(set);
+        requireBound(bound);
+        return firstDifference(set, bound, true);
     }
 
     public int firstExtra(int set, int bound)
             throws IndexOutOfBoundsException, IllegalArgumentException, NoSuchElementException {
-        if (!isSet(set)) {
-            throw new IndexOutOfBoundsException("there is no such counting set");
-        }
-        if (!isBound(bound)) {
-            throw new IllegalArgumentException("the bound is out of range");
-        }
-        int code = firstDifference(set, bound, false);
-        if (code < 0) {
-            throw new NoSuchElementException("there are no such counts");
-        }
-        return code;
+        requireSet(set);
+        requireBound(bound);
+        return firstDifference(set, bound, false);
     }
 
     public boolean hasCyclePeriods(int set, int linear) throws IndexOutOfBoundsException {
-        if (!sets.hasLinear(set, linear)) {
-            throw new IndexOutOfBoundsException("there is no such counting set or linear set");
-        }
+        requireLinear(set, linear);
         cycleFinder.gather(automaton, cycles);
         int periods = sets.periodCount(set, linear);
         for (int i = 0; i < periods; i++) {
@@ -407,26 +358,19 @@ public final class JumpingAutomata {
 
     public long acceptedWords(int mode, int length)
             throws IllegalArgumentException, UnsupportedOperationException {
-        if (!isMode(mode) || !isLength(length)) {
-            throw new IllegalArgumentException("the mode or the length is out of range");
-        }
-        if (mode == ONE_WAY && !automaton.hasSingleTargets()) {
-            throw new UnsupportedOperationException("the automaton is not deterministic");
-        }
+        requireMode(mode);
+        requireLength(length);
+        requireReadable(mode);
         return countWords(mode, length);
     }
 
     public boolean isClosed(int length) throws IllegalArgumentException {
-        if (!isLength(length)) {
-            throw new IllegalArgumentException("the length is out of range");
-        }
+        requireLength(length);
         return shortestOpenLength(length) < 0;
     }
 
     public int takeOpenWord(int length) throws IllegalArgumentException, NoSuchElementException {
-        if (!isLength(length)) {
-            throw new IllegalArgumentException("the length is out of range");
-        }
+        requireLength(length);
         int openLength = shortestOpenLength(length);
         if (openLength < 0 || !search.findOpenWord(automaton, reached, openLength)) {
             throw new NoSuchElementException("there is no such word");
@@ -437,12 +381,9 @@ public final class JumpingAutomata {
 
     public double density(int mode, int length)
             throws IllegalArgumentException, UnsupportedOperationException {
-        if (!isMode(mode) || !isLength(length)) {
-            throw new IllegalArgumentException("the mode or the length is out of range");
-        }
-        if (mode == ONE_WAY && !automaton.hasSingleTargets()) {
-            throw new UnsupportedOperationException("the automaton is not deterministic");
-        }
+        requireMode(mode);
+        requireLength(length);
+        requireReadable(mode);
         long all = 1;
         for (int i = 0; i < length; i++) {
             all *= LETTERS;
@@ -496,18 +437,6 @@ public final class JumpingAutomata {
         return isState(from) && isLetter(letter) && isState(to);
     }
 
-    private static boolean isMode(int mode) {
-        return mode >= IN_ORDER && mode <= ONE_WAY;
-    }
-
-    private static boolean isLength(int length) {
-        return length >= 0 && length <= LENGTH_LIMIT;
-    }
-
-    private static boolean isBound(int bound) {
-        return bound >= 0 && bound <= BOUND_LIMIT;
-    }
-
     private static boolean isSet(int set) {
         return set >= 0 && set < SETS;
     }
@@ -522,6 +451,62 @@ public final class JumpingAutomata {
 
     private boolean isPosition(int position) {
         return position >= 0 && position < wordSize && position < WORD_LIMIT;
+    }
+
+    // ---- what the calls refuse
+
+    private static void requireTransition(int from, int letter, int to) {
+        if (!isTransition(from, letter, to)) {
+            throw new IndexOutOfBoundsException("there is no such state or letter");
+        }
+    }
+
+    private static void requireSet(int set) {
+        if (!isSet(set)) {
+            throw new IndexOutOfBoundsException("there is no such counting set");
+        }
+    }
+
+    private void requireLinear(int set, int linear) {
+        if (!sets.hasLinear(set, linear)) {
+            throw new IndexOutOfBoundsException("there is no such counting set or linear set");
+        }
+    }
+
+    private static void requireDigits(int a, int b, int c) {
+        if (!areDigits(a, b, c)) {
+            throw new IllegalArgumentException("a number is out of range");
+        }
+    }
+
+    private static void requireBound(int bound) {
+        if (bound < 0 || bound > BOUND_LIMIT) {
+            throw new IllegalArgumentException("the bound is out of range");
+        }
+    }
+
+    private static void requireLength(int length) {
+        if (length < 0 || length > LENGTH_LIMIT) {
+            throw new IllegalArgumentException("the length is out of range");
+        }
+    }
+
+    private static void requireMode(int mode) {
+        if (mode < IN_ORDER || mode > ONE_WAY) {
+            throw new IllegalArgumentException("the mode is out of range");
+        }
+    }
+
+    private void requireReadable(int mode) {
+        if (mode == ONE_WAY) {
+            requireSingleTargets();
+        }
+    }
+
+    private void requireSingleTargets() {
+        if (!automaton.hasSingleTargets()) {
+            throw new UnsupportedOperationException("the automaton is not deterministic");
+        }
     }
 
     // ---- counts as codes
@@ -602,7 +587,7 @@ public final class JumpingAutomata {
         }
     }
 
-    /** The first counts that are reached and no members (or the other way round), or -1. */
+    /** The first counts that are reached and no members, or the other way round. */
     private int firstDifference(int set, int bound, boolean wantReached) {
         reached.fillReached(automaton, bound, bound, bound);
         members.fillMembers(sets, set, bound, bound, bound);
@@ -616,7 +601,7 @@ public final class JumpingAutomata {
                 }
             }
         }
-        return -1;
+        throw new NoSuchElementException("there are no such counts");
     }
 
     private boolean isDifference(int code, boolean wantReached) {

@@ -306,7 +306,12 @@ public final class PromiseTest {
         x.addLinearSet(1, 2, 2, 2);
         x.clearAutomaton();
         Check.due("cleared transitions", 0, () -> x.transitionCount());
-        Check.due("cleared final state", false, () -> x.setFinal(3, false));
+        for (int state = 0; state < 5; state++) {
+            int s = state;
+            Check.due("cleared final state", false, () -> x.setFinal(s, false));
+        }
+        type(x, "1c1");
+        Check.due("an old text is not added again", 1, () -> x.addText());
         Check.due("the word stays", 1, () -> x.wordLength());
         Check.due("the sets stay", 1, () -> x.clearSet(1));
         Check.due("not accepted any more", false, () -> x.accepts(0));
@@ -411,6 +416,12 @@ public final class PromiseTest {
         word(z, "ab");
         Check.due("one-way takes the first letter it can read", false, () -> z.accepts(2));
         Check.due("all is read, but the state is not final", 0, () -> z.oneWayRest());
+        JumpingAutomata w = automaton("0a1,0b2,2a3,!3");
+        word(w, "ab");
+        Check.due("jumping may choose another letter", true, () -> w.accepts(1));
+        Check.due("one-way may not", false, () -> w.accepts(2));
+        Check.due("jumping words", 2L, () -> w.acceptedWords(1, 2));
+        Check.due("one-way words", 1L, () -> w.acceptedWords(2, 2));
     }
 
     // ---- promises 19, 20
@@ -471,6 +482,15 @@ public final class PromiseTest {
         Check.due("and appendLetter", ELEMENT, () -> y.orderCost());
         word(y, "bbbbaaaa");
         Check.due("bbbbaaaa costs", 32, () -> y.orderCost());
+        Check.due("an arrangement of it", 8, () -> y.takeArrangement(0));
+        Check.due("the cost follows takeArrangement", 7, () -> y.orderCost());
+        y.clearWord();
+        Check.due("and clearWord", 0, () -> y.orderCost());
+        Check.due("an open word", 2, () -> y.takeOpenWord(2));
+        Check.due("the cost follows takeOpenWord", 2, () -> y.orderCost());
+        JumpingAutomata z = automaton("0a1,0a2,1b3,2c3,!3");
+        word(z, "ca");
+        Check.due("a choice of targets", "10", () -> orderOf(z));
     }
 
     // ---- promises 25, 35, 26, 27, 43
@@ -573,7 +593,10 @@ public final class PromiseTest {
         Check.due("clearSet(1)", 4, () -> x.clearSet(1));
         Check.due("clearSet(1) again", 0, () -> x.clearSet(1));
         Check.due("a new linear set", 0, () -> x.addLinearSet(1, 1, 1, 1));
-        Check.due("has no old periods", 1, () -> x.addPeriod(1, 0, 0, 0, 1));
+        x.addLinearSet(1, 1, 1, 1);
+        x.addLinearSet(1, 1, 1, 1);
+        x.addLinearSet(1, 1, 1, 1);
+        Check.due("has no old periods", 1, () -> x.addPeriod(1, 3, 0, 0, 1));
     }
 
     private static void members() {
@@ -634,6 +657,25 @@ public final class PromiseTest {
         Check.due("sums come first", 50, () -> x.firstExtra(0, 6));
         Check.due("and the bound", ELEMENT, () -> x.firstExtra(0, 4));
         Check.due("the other set misses all", 0, () -> x.firstMissing(1, 6));
+        JumpingAutomata y = new JumpingAutomata();
+        int[] codes = {666, 606, 60, 6, 0};
+        for (int code : codes) {
+            y.clearSet(1);
+            y.addLinearSet(1, code / 100, code / 10 % 10, code % 10);
+            Check.due("the only extra counts", code, () -> y.firstExtra(1, 6));
+        }
+        y.clearSet(1);
+        y.addLinearSet(1, 0, 9, 0);
+        y.addLinearSet(1, 0, 0, 7);
+        Check.due("not beyond the bound", ELEMENT, () -> y.firstExtra(1, 6));
+        y.addLinearSet(1, 1, 1, 0);
+        y.addLinearSet(1, 1, 0, 1);
+        Check.due("equal sums in order", 101, () -> y.firstExtra(1, 6));
+        JumpingAutomata z = automaton("0a0,0b0,0c0,!0");
+        z.addLinearSet(0, 0, 0, 0);
+        z.addPeriod(0, 0, 0, 0, 1);
+        z.addPeriod(0, 0, 0, 1, 0);
+        Check.due("the first missing one", 100, () -> z.firstMissing(0, 1));
     }
 
     private static void cyclePeriods() {
@@ -649,7 +691,12 @@ public final class PromiseTest {
         Check.due("with cycles", true, () -> x.hasCyclePeriods(0, 0));
         x.addPeriod(0, 0, 1, 1, 1);
         Check.due("with a cycle that is not simple", false, () -> x.hasCyclePeriods(0, 0));
-        x.undo();
+        x.addLinearSet(0, 0, 0, 0);
+        x.addPeriod(0, 1, 2, 0, 0);
+        Check.due("with one wrong period", false, () -> x.hasCyclePeriods(0, 1));
+        x.clearSet(0);
+        x.addLinearSet(0, 0, 0, 0);
+        x.addPeriod(0, 0, 1, 1, 0);
         x.clearAutomaton();
         Check.due("without cycles", false, () -> x.hasCyclePeriods(0, 0));
     }
