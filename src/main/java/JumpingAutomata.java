@@ -831,7 +831,7 @@ public final class JumpingAutomata {
         }
 
         boolean hasLinear(int set, int linear) {
-            return linear >= 0 && linear < LINEAR_LIMIT && linear < linearCount(set);
+            return isSet(set) && linear >= 0 && linear < LINEAR_LIMIT && linear < cells[set * SET_CELLS];
         }
 
         int base(int set, int linear) {

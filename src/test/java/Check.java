@@ -7,15 +7,20 @@ final class Check {
     }
 
     private static int wrong = 0;
+    private static String about = "";
 
     private Check() {
+    }
+
+    /** What the calls that follow are about; it is told before each wrong answer. */
+    static void about(String text) {
+        about = text.isEmpty() ? "" : "[" + text + "] ";
     }
 
     static void due(String call, Object want, Call made) {
         Object got = answerOf(made);
         if (!Objects.equals(got, want)) {
-            wrong++;
-            System.out.println(call + " answered " + got + ", due is " + want);
+            fail(call + " answered " + got + ", due is " + want);
         }
     }
 
@@ -30,7 +35,7 @@ final class Check {
 
     static void fail(String text) {
         wrong++;
-        System.out.println(text);
+        System.out.println(about + text);
     }
 
     static void end() {

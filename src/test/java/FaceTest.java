@@ -78,6 +78,7 @@ public final class FaceTest {
             }
             for (Method method : inside.getDeclaredMethods()) {
                 hidden.add(method.getName());
+                Check.due("at most seven parameters: " + method, true, () -> method.getParameterCount() <= 7);
             }
         }
         for (String line : FACE) {

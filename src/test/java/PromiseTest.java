@@ -1,14 +1,5 @@
 /** The four examples of the document, and ordinary inputs, edges and wrong inputs of each promise. */
-public final class PromiseTest {
-    private static final String ARGUMENT = "throws.IllegalArgumentException";
-    private static final String STATE = "throws.IllegalStateException";
-    private static final String INDEX = "throws.IndexOutOfBoundsException";
-    private static final String ELEMENT = "throws.NoSuchElementException";
-    private static final String UNSUPPORTED = "throws.UnsupportedOperationException";
-    private static final String ARITHMETIC = "throws.ArithmeticException";
-    private static final int LEAST = Integer.MIN_VALUE;
-    private static final int MOST = Integer.MAX_VALUE;
-
+public final class PromiseTest extends Lab {
     public static void main(String[] args) {
         examples();
         newObject();
@@ -40,82 +31,14 @@ public final class PromiseTest {
         Check.end();
     }
 
-    // ---- short ways to objects
+    // ---- calls that answer nothing
 
-    private static JumpingAutomata automaton(String text) {
-        JumpingAutomata x = new JumpingAutomata();
-        for (String item : text.split(" ")) {
-            type(x, item);
-            x.addText();
-        }
-        return x;
-    }
-
-    private static void type(JumpingAutomata x, String text) {
-        for (int i = 0; i < text.length(); i++) {
-            x.appendCharacter(text.charAt(i));
-        }
-    }
-
-    private static void word(JumpingAutomata x, String letters) {
-        x.clearWord();
-        for (int i = 0; i < letters.length(); i++) {
-            x.appendLetter(letters.charAt(i) - 'a');
-        }
-    }
-
-    private static String wordOf(JumpingAutomata x) {
-        StringBuilder letters = new StringBuilder();
-        for (int i = 0; i < x.wordLength(); i++) {
-            letters.append((char) ('a' + x.letterAt(i)));
-        }
-        return letters.toString();
-    }
-
-    private static String orderOf(JumpingAutomata x) {
-        StringBuilder order = new StringBuilder();
-        for (int i = 0; i < x.wordLength(); i++) {
-            order.append(x.orderPosition(i));
-        }
-        return order.toString();
-    }
-
-    private static String listOf(JumpingAutomata x) {
-        StringBuilder list = new StringBuilder();
-        for (int i = 0; i < x.transitionCount(); i++) {
-            list.append(i > 0 ? " " : "").append(x.transition(i));
-        }
-        return list.toString();
-    }
-
-    private static String minimalsOf(JumpingAutomata x) {
-        StringBuilder list = new StringBuilder();
-        for (int i = 0; i < x.minimalCount(); i++) {
-            list.append(i > 0 ? " " : "").append(x.minimal(i));
-        }
-        return list.toString();
-    }
-
-    private static String cyclesOf(JumpingAutomata x) {
-        StringBuilder list = new StringBuilder();
-        for (int i = 0; i < x.cycleCount(); i++) {
-            list.append(i > 0 ? " " : "").append(x.cycle(i));
-        }
-        return list.toString();
-    }
-
-    private static Check.Call remove(JumpingAutomata x, int from, int letter, int to) {
-        return () -> {
-            x.removeTransition(from, letter, to);
-            return "void";
-        };
+    private static Check.Call removal(JumpingAutomata x, int from, int letter, int to) {
+        return () -> remove(x, from, letter, to);
     }
 
     private static Check.Call restored(JumpingAutomata x) {
-        return () -> {
-            x.restore();
-            return "void";
-        };
+        return () -> restore(x);
     }
 
     // ---- the examples of the Description
@@ -253,7 +176,7 @@ public final class PromiseTest {
         int[][] wrong = {{-1, 0, 0}, {5, 0, 0}, {0, -1, 0}, {0, 3, 0}, {0, 0, -1}, {0, 0, 5}, {LEAST, MOST, 0}};
         for (int[] w : wrong) {
             Check.due("wrong transition", INDEX, () -> x.addTransition(w[0], w[1], w[2]));
-            Check.due("wrong removal", INDEX, remove(x, w[0], w[1], w[2]));
+            Check.due("wrong removal", INDEX, removal(x, w[0], w[1], w[2]));
         }
         Check.due("add 3 1 2", true, () -> x.addTransition(3, 1, 2));
         Check.due("add 3 0 4", true, () -> x.addTransition(3, 0, 4));
@@ -265,7 +188,7 @@ public final class PromiseTest {
         Check.due("transition(4)", INDEX, () -> x.transition(4));
         Check.due("transition(most)", INDEX, () -> x.transition(MOST));
         Check.due("not deterministic", false, () -> x.isDeterministic());
-        Check.due("removed", "void", remove(x, 3, 1, 0));
+        Check.due("removed", "void", removal(x, 3, 1, 0));
         Check.due("deterministic", true, () -> x.isDeterministic());
         for (int i = 0; i < 12; i++) {
             int from = i / 5;
@@ -281,10 +204,10 @@ public final class PromiseTest {
 
     private static void removals() {
         JumpingAutomata x = automaton("0a1,0a2,0b1,!1");
-        Check.due("remove what is not there", ELEMENT, remove(x, 1, 0, 0));
-        Check.due("remove 0 0 1", "void", remove(x, 0, 0, 1));
+        Check.due("remove what is not there", ELEMENT, removal(x, 1, 0, 0));
+        Check.due("remove 0 0 1", "void", removal(x, 0, 0, 1));
         Check.due("left", "2 11", () -> listOf(x));
-        Check.due("remove it again", ELEMENT, remove(x, 0, 0, 1));
+        Check.due("remove it again", ELEMENT, removal(x, 0, 0, 1));
         word(x, "a");
         Check.due("a is no longer accepted", false, () -> x.accepts(0));
     }
