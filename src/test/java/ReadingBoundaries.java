@@ -228,7 +228,7 @@ final class ReadingBoundaries extends Lab {
             costFollows(x -> x.addTransition(0, 1, 1) && x.addTransition(1, 0, 0), 1);
             costFollows(x -> {
                 x.clearAutomaton();
-                return x.addTransition(0, 0, 0);
+                return "void";
             }, ELEMENT);
             costFollows(x -> {
                 type(x, "0b1,1a0");
