@@ -1,8 +1,11 @@
 import java.util.Objects;
 
-/** What the tests share: due answers, due exceptions, and the exit code. */
-final class Check {
-    interface Call {
+/**
+ * What the tests share: due answers, due exceptions, and the exit code. It is public because the calls of
+ * a Script come from another class loader.
+ */
+public final class Check {
+    public interface Call {
         Object make();
     }
 
@@ -13,11 +16,11 @@ final class Check {
     }
 
     /** What the calls that follow are about; it is told before each wrong answer. */
-    static void about(String text) {
+    public static void about(String text) {
         about = text.isEmpty() ? "" : "[" + text + "] ";
     }
 
-    static void due(String call, Object want, Call made) {
+    public static void due(String call, Object want, Call made) {
         Object got = answerOf(made);
         if (!Objects.equals(got, want)) {
             fail(call + " answered " + got + ", due is " + want);

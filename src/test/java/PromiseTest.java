@@ -1,7 +1,6 @@
-/** The four examples of the document, and ordinary inputs, edges and wrong inputs of each promise. */
+/** Ordinary inputs, edges and wrong inputs of each promise. */
 public final class PromiseTest extends Lab {
     public static void main(String[] args) {
-        examples();
         newObject();
         texts();
         faults();
@@ -39,49 +38,6 @@ public final class PromiseTest extends Lab {
 
     private static Check.Call restored(JumpingAutomata x) {
         return () -> restore(x);
-    }
-
-    // ---- the examples of the Description
-
-    private static void examples() {
-        JumpingAutomata x = new JumpingAutomata();
-        Check.due("1 addTransition", true, () -> x.addTransition(0, 0, 1));
-        Check.due("1 addTransition", true, () -> x.addTransition(1, 1, 0));
-        Check.due("1 setFinal", false, () -> x.setFinal(0, true));
-        Check.due("1 appendLetter", 1, () -> x.appendLetter(1));
-        Check.due("1 appendLetter", 2, () -> x.appendLetter(0));
-        Check.due("1 accepts(0)", false, () -> x.accepts(0));
-        Check.due("1 accepts(1)", true, () -> x.accepts(1));
-        Check.due("1 accepts(2)", true, () -> x.accepts(2));
-        Check.due("1 oneWayJumps", 1, () -> x.oneWayJumps());
-        Check.due("1 orderCost", 2, () -> x.orderCost());
-        Check.due("1 orderPosition(0)", 1, () -> x.orderPosition(0));
-        Check.due("1 acceptedWords(1, 4)", 6L, () -> x.acceptedWords(1, 4));
-
-        JumpingAutomata y = new JumpingAutomata();
-        Check.due("2 addTransition", true, () -> y.addTransition(0, 0, 0));
-        Check.due("2 addTransition", true, () -> y.addTransition(0, 2, 1));
-        Check.due("2 setFinal", false, () -> y.setFinal(1, true));
-        Check.due("2 minimalCount", 1, () -> y.minimalCount());
-        Check.due("2 minimal(0)", 1, () -> y.minimal(0));
-        Check.due("2 cycleCount", 1, () -> y.cycleCount());
-        Check.due("2 cycle(0)", 100, () -> y.cycle(0));
-        Check.due("2 reaches(3, 0, 1)", true, () -> y.reaches(3, 0, 1));
-
-        JumpingAutomata z = new JumpingAutomata();
-        Check.due("3 addLinearSet", 0, () -> z.addLinearSet(0, 0, 1, 0));
-        Check.due("3 addPeriod", 1, () -> z.addPeriod(0, 0, 2, 0, 0));
-        Check.due("3 contains(0, 4, 1, 0)", true, () -> z.contains(0, 4, 1, 0));
-        Check.due("3 contains(0, 3, 1, 0)", false, () -> z.contains(0, 3, 1, 0));
-        Check.due("3 elements(0, 3)", 2, () -> z.elements(0, 3));
-        Check.due("3 firstExtra(0, 3)", 10, () -> z.firstExtra(0, 3));
-
-        JumpingAutomata w = new JumpingAutomata();
-        type(w, "0d");
-        Check.due("4 addText", ARGUMENT, () -> w.addText());
-        Check.due("4 faultPosition", 1, () -> w.faultPosition());
-        Check.due("4 addTransition(5, 0, 0)", INDEX, () -> w.addTransition(5, 0, 0));
-        Check.due("4 averageMinimum", ARITHMETIC, () -> w.averageMinimum());
     }
 
     // ---- promise 1
